@@ -489,10 +489,19 @@ public final class CallersTest {
         y.undo();
         dueMet("5 an argument is no parameter", y, 0, 0, 5);
         due("20 but it was named", y.anew(0, 0), NO);
-        y.marks(0, 2);
-        y.type(false, 0, 0);
-        y.undo();
-        due("5 a parameter is no more", y.meet(1, 0), LOST);
+        Edits13 z = new Edits13();
+        z.type(false, NO, 2);
+        z.type(false, 0, 0);
+        z.type(false, NO, 0);
+        z.method(1, 0, 2, NO, 0, 5);
+        z.method(1, 0, 0, 2, 0, 5);
+        z.call(1, 0, 2, NO);
+        z.call(1, 0, 0, 2);
+        due("5 barred", z.meet(0, 0), BARRED);
+        due("5 barred", z.meet(1, 0), BARRED);
+        for (int i = 0; i < 3; i++) z.undo();
+        due("5 a first parameter is no more, ahead of barred", z.meet(0, 0), LOST);
+        due("5 a second parameter is no more, ahead of barred", z.meet(1, 0), LOST);
     }
 
     private static void asked() {

@@ -149,6 +149,11 @@ public final class HouseTest {
         x.mark(1, 1);
         due("26 the nearer one is static", x.selected(1, 0), 0);
         due("26 the class above", x.selected(0, 0), 0);
+        x.method(0, 1, 1, 0, 0, 0);
+        x.method(0, 1, 0, 1, 0, 0);
+        x.method(0, 1, 0, 0, 0, 0);
+        x.method(0, 1, 1, NO, 0, 0);
+        for (int m = 2; m < 6; m++) due("26 by the parameters " + m, x.selected(1, m), m);
     }
 
     private static void count() {
@@ -179,6 +184,7 @@ public final class HouseTest {
         x.field(1, 2, 2, 1, -1);
         x.field(1, 3, 6, 0, 16777217);
         x.method(1, 2, 0, 1, 0, -5);
+        x.field(0, 0, 0, 1, 256);
         x.drop(0);
         x.make(1);
         long[] told = {
@@ -187,7 +193,8 @@ public final class HouseTest {
             1, 0, 1, 2, 1, 2, NO, 65535,
             2, 0, 1, 3, 0, 6, NO, 16777216,
             3, 1, 1, 2, 0, 0, 1, -5,
-            8};
+            4, 0, 0, 0, 1, 0, NO, 1,
+            9};
         long h = 17;
         for (long v : told) h = 31 * h + v;
         due("28 digest", x.digest(), h);
