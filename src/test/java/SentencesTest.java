@@ -42,6 +42,7 @@ public final class SentencesTest {
         changedFace();
         readUpwards();
         readAside();
+        readLike();
         lookedAtAlways();
         lastEdit();
         takenBack();
@@ -275,6 +276,9 @@ public final class SentencesTest {
         x.method(0, 0, 0, NO, 0, 12);
         due("3 one is below both", x.call(0, 0, 0, NO), 2);
         due("3 it is that", x.caller(2, 3), 0);
+        x.drop(2);
+        due("3 it is dropped", x.call(0, 0, 0, NO), MANY);
+        x.undo();
         x.method(1, 1, 1, 4, 0, 13);
         x.method(1, 1, 0, 4, 0, 14);
         due("3 the same in one, below in the other", x.call(0, 1, 0, 3), 3);
@@ -334,6 +338,16 @@ public final class SentencesTest {
         due("2 a class goes ahead, though abstract", x.selected(0, 4), NO);
         x.mark(0, 4);
         due("2 not if it is hidden", x.selected(0, 4), 3);
+        Edits13 y = types(0, 3);
+        y.type(false, NO, 0);
+        for (int f = 0; f < 3; f++) {
+            y.face(3, f);
+            y.method(f, 0, 3, 0, 0, f);
+        }
+        due("2 the first face of all and the others", y.selected(3, 0), RING);
+        y.face(0, 1);
+        y.face(0, 2);
+        due("2 the first face of all", y.selected(3, 2), 0);
     }
 
     // ---- 4: what is met, with all failures at once, taken away one by one from the first on
@@ -588,6 +602,27 @@ public final class SentencesTest {
         dueMet("4 one with other parameters breaks nothing", x, 0, 0, 0);
     }
 
+    // 0 is below 1. Methods that are like a final one in some of their parameters break nothing.
+    private static void readLike() {
+        Edits13 x = types(2, 0);
+        x.above(0, 1);
+        x.make(0);
+        x.marks(1, 1);
+        dueMet("4 abstract above is not final above", x, 0, 0, 0);
+        x.method(0, 0, 0, 1, 0, 7);
+        x.method(1, 0, 0, 0, 2, 8);
+        x.method(1, 0, 1, 1, 2, 8);
+        x.method(1, 0, 1, 0, 2, 8);
+        x.method(1, 0, 0, NO, 2, 8);
+        x.method(1, 0, NO, NO, 2, 8);
+        x.method(1, 1, 0, 1, 2, 8);
+        dueMet("4 none is like it", x, 0, 0, 0);
+        x.method(1, 0, 0, 1, 2, 8);
+        due("4 this one is", x.meet(0, 0), BROKEN);
+        x.mark(7, 0);
+        dueMet("4 but not if it is not final", x, 0, 0, 0);
+    }
+
     // Callers that do not look at r want a CLASS all the same.
     private static void lookedAtAlways() {
         Edits13 x = types(1, 1);
@@ -799,14 +834,21 @@ public final class SentencesTest {
         x.field(1, 0, 5, 3, 8);
         due("20 old: changed", x.meet(0, 1), CHANGED);
         due("20 anew it finds the nearer one, and keeps it", x.anew(0, 0) + x.asked(), 8);
+        x.method(0, 0, 0, 1, 0, 9);
+        due("20 the next one that is made", x.call(0, 0, 1, 1), 1);
+        due("22 keeps nothing of that", x.caller(1, 5), 0);
+        due("20 it calls", x.anew(1, 0) + x.asked(), 9);
+        due("20 the next one that is made", x.make(0), 2);
+        due("22 keeps nothing of that", x.caller(2, 3) + x.caller(2, 4) + x.caller(2, 5), NO + NO);
+        dueMet("18 and is what it is", x, 2, 0, 0);
         x.mark(1, 7);
         due("20 old: closed", x.meet(0, 1), CLOSED);
         due("20 anew it passes over it, and then meets it", x.anew(0, 1), CLOSED);
         due("22 it is as it was", x.caller(0, 5) * 100 + x.caller(0, 6), 4);
-        due("27 none came", x.count(2), 1);
+        due("27 no caller came by it", x.count(2), 3);
         x.drop(0);
         due("20 no such", x.anew(0, 1), NO_SUCH);
-        for (int c = 1; c < 24; c++) x.make(0);
+        for (int c = 3; c < 24; c++) x.make(0);
         due("20 a fault, not full", x.anew(0, 1), NO_SUCH);
         due("20 all places taken", x.anew(23, 1), 0);
         x.marks(0, 1);
