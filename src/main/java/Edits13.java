@@ -93,7 +93,7 @@ public final class Edits13 {
 
     public int mark(int member, int m) {
         if (!now.members.isMember(member)) return BAD;
-        boolean good = now.members.isMethod[member]
+        boolean good = now.members.isMethod(member)
             ? isMethodMarks(m) : now.fieldMayBear(m, now.members.owner[member]);
         if (!good) return BAD;
         return take(MEMBER_MARKS, member, m, 0, 0, 0, 0L);
@@ -199,7 +199,6 @@ public final class Edits13 {
     // ---- what there is
 
     public int told(int type, int what) {
-        if (!now.types.isType(type)) return BAD;
         return now.types.tell(type, what);
     }
 
@@ -209,13 +208,12 @@ public final class Edits13 {
     }
 
     public int member(int m, int what) {
-        if (!now.members.isMember(m)) return BAD;
         return now.members.tell(m, what);
     }
 
     public int selected(int type, int method) {
         Members all = now.members;
-        if (!now.types.isClass(type) || !all.isMember(method) || !all.isMethod[method]) return BAD;
+        if (!now.types.isClass(type) || !all.isMethod(method)) return BAD;
         return now.select(type, all.name[method], all.first[method], all.second[method]);
     }
 
@@ -396,19 +394,31 @@ public final class Edits13 {
         }
 
         boolean isBelow(int t, int other) {
-            return holds(reach[t], other);
+            return isType(t) && isType(other) && holds(reach[t], other);
         }
 
         boolean isAbstract(int t) {
-            return !isFace[t] && (marks[t] & TYPE_ABSTRACT) != 0;
+            return isClass(t) && (marks[t] & TYPE_ABSTRACT) != 0;
+        }
+
+        boolean isFinal(int t) {
+            return isType(t) && (marks[t] & TYPE_FINAL) != 0;
+        }
+
+        int aboveOf(int t) {
+            return isType(t) ? parent[t] : NONE;
+        }
+
+        private int reachOf(int t) {
+            return isType(t) ? reach[t] : 0;
         }
 
         int faceAt(int t, int i) {
-            return i >= 0 && i < faceCount[t] ? faces[t * MOST_FACES + i] : NONE;
+            return isType(t) && i >= 0 && i < faceCount[t] ? faces[t * MOST_FACES + i] : NONE;
         }
 
         boolean hasFace(int t, int face) {
-            for (int i = 0; i < faceCount[t]; i++) {
+            for (int i = 0; i < MOST_FACES; i++) {
                 if (faceAt(t, i) == face) return true;
             }
             return false;
@@ -427,13 +437,14 @@ public final class Edits13 {
         }
 
         int putAbove(int t, int above) {
+            if (!isType(t)) return BAD;
             parent[t] = above;
             reachAnew();
             return 1;
         }
 
         int addFace(int t, int face) {
-            if (faceCount[t] >= MOST_FACES) return BAD;
+            if (!isType(t) || faceCount[t] >= MOST_FACES) return BAD;
             faces[t * MOST_FACES + faceCount[t]] = face;
             faceCount[t]++;
             reachAnew();
@@ -441,6 +452,7 @@ public final class Edits13 {
         }
 
         int takeFace(int t, int i) {
+            if (!isType(t) || i < 0 || i >= faceCount[t]) return BAD;
             for (int k = i; k + 1 < faceCount[t]; k++) {
                 faces[t * MOST_FACES + k] = faces[t * MOST_FACES + k + 1];
             }
@@ -450,6 +462,7 @@ public final class Edits13 {
         }
 
         int remark(int t, int itsMarks) {
+            if (!isType(t)) return BAD;
             int before = marks[t];
             marks[t] = itsMarks;
             return before;
@@ -470,8 +483,8 @@ public final class Edits13 {
         }
 
         private int reachOfNext(int t) {
-            int set = parent[t] == NONE ? 0 : reach[parent[t]];
-            for (int i = 0; i < faceCount[t]; i++) set |= reach[faces[t * MOST_FACES + i]];
+            int set = reachOf(aboveOf(t));
+            for (int i = 0; i < MOST_FACES; i++) set |= reachOf(faceAt(t, i));
             return set;
         }
 
@@ -492,14 +505,14 @@ public final class Edits13 {
         }
 
         private int wayUp(int t, int holders) {
-            int up = parent[t];
-            return up != NONE && (reach[up] & holders) != 0 ? up : NONE;
+            int up = aboveOf(t);
+            return (reachOf(up) & holders) != 0 ? up : NONE;
         }
 
         private int wayAside(int t, int holders) {
-            for (int i = 0; i < faceCount[t]; i++) {
-                int face = faces[t * MOST_FACES + i];
-                if ((reach[face] & holders) != 0) return face;
+            for (int i = 0; i < MOST_FACES; i++) {
+                int face = faceAt(t, i);
+                if ((reachOf(face) & holders) != 0) return face;
             }
             return NONE;
         }
@@ -509,14 +522,14 @@ public final class Edits13 {
             int at = t;
             for (int step = 0; step < MOST_TYPES && at != NONE; step++) {
                 if (holds(holders, at)) return at;
-                at = parent[at];
+                at = aboveOf(at);
             }
             return NONE;
         }
 
         /** The FACES among the holders that a CLASS is BELOW, without those that another one of them is BELOW. */
         int nearestFaces(int t, int holders) {
-            int all = reach[t] & holders;
+            int all = reachOf(t) & holders;
             int nearest = all;
             for (int f = 0; f < size; f++) {
                 if (!isFace[f]) nearest &= ~(1 << f);
@@ -526,6 +539,7 @@ public final class Edits13 {
         }
 
         int tell(int t, int what) {
+            if (!isType(t)) return BAD;
             switch (what) {
                 case 0: return isFace[t] ? 1 : 0;
                 case 1: return parent[t];
@@ -551,7 +565,7 @@ public final class Edits13 {
     private static final class Members {
         int size = 0;
         final int[] owner = new int[MOST_MEMBERS];
-        final boolean[] isMethod = new boolean[MOST_MEMBERS];
+        final boolean[] methodAt = new boolean[MOST_MEMBERS];
         final int[] name = new int[MOST_MEMBERS];
         final int[] marks = new int[MOST_MEMBERS];
         // The KIND of a FIELD or the first PARAMETER of a METHOD, as member() tells them.
@@ -573,24 +587,28 @@ public final class Edits13 {
         }
 
         boolean isField(int m) {
-            return isMember(m) && !isMethod[m];
+            return isMember(m) && !methodAt[m];
+        }
+
+        boolean isMethod(int m) {
+            return isMember(m) && methodAt[m];
         }
 
         boolean bears(int m, int anyOf) {
-            return (marks[m] & anyOf) != 0;
+            return isMember(m) && (marks[m] & anyOf) != 0;
         }
 
         /** Whether a METHOD is one that overrides and is overridden. */
         boolean isOpen(int m) {
-            return isMethod[m] && (marks[m] & (STATIC | HIDDEN)) == 0;
+            return isMember(m) && methodAt[m] && (marks[m] & (STATIC | HIDDEN)) == 0;
         }
 
         private boolean isFieldNamed(int m, int itsName) {
-            return owner[m] != NONE && !isMethod[m] && name[m] == itsName;
+            return isMember(m) && !methodAt[m] && name[m] == itsName;
         }
 
         private boolean isMethodLike(int m, int itsName, int a, int b) {
-            return owner[m] != NONE && isMethod[m] && name[m] == itsName && first[m] == a && second[m] == b;
+            return isMember(m) && methodAt[m] && name[m] == itsName && first[m] == a && second[m] == b;
         }
 
         int fieldOf(int type, int itsName) {
@@ -608,6 +626,7 @@ public final class Edits13 {
         }
 
         boolean hasOpenLike(int type, int method) {
+            if (!isMethod(method)) return false;
             for (int m = 0; m < MOST_MEMBERS; m++) {
                 if (owner[m] != type || !isMethodLike(m, name[method], first[method], second[method])) continue;
                 return isOpen(m);
@@ -616,7 +635,8 @@ public final class Edits13 {
         }
 
         int likeIn(int type, int m) {
-            return isMethod[m] ? methodOf(type, name[m], first[m], second[m]) : fieldOf(type, name[m]);
+            if (!isMember(m)) return NONE;
+            return methodAt[m] ? methodOf(type, name[m], first[m], second[m]) : fieldOf(type, name[m]);
         }
 
         /** The set of TYPES that have a FIELD of a NAME with none of the marks passed over. */
@@ -649,7 +669,7 @@ public final class Edits13 {
             for (int m = 0; m < MOST_MEMBERS; m++) {
                 if (owner[m] != NONE) continue;
                 owner[m] = type;
-                isMethod[m] = method;
+                methodAt[m] = method;
                 name[m] = itsName;
                 first[m] = a;
                 second[m] = b;
@@ -662,35 +682,41 @@ public final class Edits13 {
         }
 
         int free(int m) {
+            if (!isMember(m)) return BAD;
             owner[m] = NONE;
             size--;
             return 1;
         }
 
         int remark(int m, int itsMarks) {
+            if (!isMember(m)) return BAD;
             int before = marks[m];
             marks[m] = itsMarks;
             return before;
         }
 
         int putValue(int m, long v) {
-            value[m] = asKind(isMethod[m] ? INTS : first[m], v);
+            if (!isMember(m)) return BAD;
+            value[m] = asKind(methodAt[m] ? INTS : first[m], v);
             return 1;
         }
 
         int putKind(int m, int kind, long v) {
+            if (!isField(m)) return BAD;
             first[m] = kind;
             return putValue(m, v);
         }
 
         int putOwner(int m, int type) {
+            if (!isMember(m)) return BAD;
             owner[m] = type;
             return 1;
         }
 
         int tell(int m, int what) {
+            if (!isMember(m)) return BAD;
             switch (what) {
-                case 0: return isMethod[m] ? 1 : 0;
+                case 0: return methodAt[m] ? 1 : 0;
                 case 1: return owner[m];
                 case 2: return name[m];
                 case 3: return marks[m];
@@ -746,7 +772,7 @@ public final class Edits13 {
         }
 
         boolean fieldMayBear(int marks, int type) {
-            return isFieldMarks(marks) && (!types.isFace[type] || (marks & STATIC) != 0);
+            return isFieldMarks(marks) && (!types.isFaceType(type) || (marks & STATIC) != 0);
         }
 
         boolean areParameters(int a, int b) {
@@ -787,7 +813,7 @@ public final class Edits13 {
         int bind(Caller c) {
             if (c.sort == GET) return bindField(c);
             if (c.sort == CALL) return bindMethod(c);
-            return types.isFace[c.type] || types.isAbstract(c.type) ? NOT_TO_BE_MADE : 0;
+            return types.isFaceType(c.type) || types.isAbstract(c.type) ? NOT_TO_BE_MADE : 0;
         }
 
         private int bindField(Caller c) {
@@ -813,17 +839,17 @@ public final class Edits13 {
             c.first = members.first[m];
             c.second = members.second[m];
             c.ofStatic = members.bears(m, STATIC);
-            c.ofFace = types.isFace[c.type];
+            c.ofFace = types.isFaceType(c.type);
             return 0;
         }
 
         private boolean isFit(int m, Caller c) {
-            if (!members.isMember(m) || !members.isMethod[m] || members.name[m] != c.name) return false;
+            if (!members.isMethod(m) || members.name[m] != c.name || members.bears(m, HIDDEN)) return false;
             int a = members.first[m];
             int b = members.second[m];
-            if (members.bears(m, HIDDEN)) return false;
             if (!goesInto(c.firstArgument, a) || !goesInto(c.secondArgument, b)) return false;
-            return lookForMethod(c.type, c.name, a, b) == m;
+            int holders = members.methodHolders(c.name, a, b, 0);
+            return types.firstHolder(c.type, holders, false) == members.owner[m];
         }
 
         private boolean goesInto(int argument, int parameter) {
@@ -854,7 +880,7 @@ public final class Edits13 {
             int failure = read(c.type);
             if (failure != 0) return failure;
             if (c.sort == NEW) return types.isAbstract(c.type) ? HOLLOW : meetsValue((long) c.type);
-            if (c.sort == CALL && types.isFace[c.type] != c.ofFace) return CHANGED;
+            if (c.sort == CALL && types.isFaceType(c.type) != c.ofFace) return CHANGED;
             int m = c.sort == GET
                 ? lookForField(c.type, c.name, 0) : lookForMethod(c.type, c.name, c.first, c.second);
             failure = failureOfFound(m, c);
@@ -901,8 +927,8 @@ public final class Edits13 {
             int failure = 0;
             int at = type;
             for (int step = 0; step < MOST_TYPES && at != NONE; step++) {
-                int up = types.parent[at];
-                if (up != NONE && (types.marks[up] & TYPE_FINAL) != 0) failure = BARRED;
+                int up = types.aboveOf(at);
+                if (types.isFinal(up)) failure = BARRED;
                 else if (up != NONE && breaksFinal(at)) failure = BROKEN;
                 at = up;
             }
@@ -913,7 +939,7 @@ public final class Edits13 {
         private boolean breaksFinal(int type) {
             for (int f = 0; f < MOST_MEMBERS; f++) {
                 int up = members.owner[f];
-                if (up == NONE || up == type || types.isFace[up] || !types.isBelow(type, up)) continue;
+                if (up == type || !types.isClass(up) || !types.isBelow(type, up)) continue;
                 if (members.isOpen(f) && members.bears(f, FINAL) && members.hasOpenLike(type, f)) return true;
             }
             return false;
