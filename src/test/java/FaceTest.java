@@ -60,6 +60,43 @@ public final class FaceTest {
         }
     }
 
+    // The numbers of LANGUAGE.md's rule 11, and the static fields of its rule 5.
+    private static void shape() {
+        Class<?>[] inside = Edits13.class.getDeclaredClasses();
+        hold("at most twelve classes", inside.length + 1 <= 12);
+        shapeOf(Edits13.class);
+        for (Class<?> c : inside) shapeOf(c);
+    }
+
+    private static void shapeOf(Class<?> c) {
+        int fields = 0;
+        for (Field f : c.getDeclaredFields()) {
+            boolean ofClass = Modifier.isStatic(f.getModifiers());
+            if (!ofClass) fields++;
+            hold(f + " is a constant", !ofClass || Modifier.isFinal(f.getModifiers()) && f.getType() == int.class);
+        }
+        hold(c + " has at most twenty fields", fields <= 20);
+        hold(c + " has no class inside", c == Edits13.class || c.getDeclaredClasses().length == 0);
+        hold(c + " is private", c == Edits13.class || Modifier.isPrivate(c.getModifiers()));
+        for (Method m : c.getDeclaredMethods()) hold(m + " takes at most seven", m.getParameterCount() <= 7);
+        for (Constructor<?> m : c.getDeclaredConstructors()) {
+            hold(m + " takes at most seven", m.getParameterCount() <= 7);
+        }
+    }
+
+    // No method is longer than sixty lines: the brace that ends it stands as far in as its first line.
+    private static void lengths() throws IOException {
+        String source = Files.readString(Path.of("src/main/java/Edits13.java"));
+        Matcher body = Pattern.compile("(?ms)^( {4}| {8})(?! )[^\n;]*\\) \\{$.*?^\\1\\}$").matcher(source);
+        int methods = 0;
+        while (body.find()) {
+            methods++;
+            String first = body.group().split("\n")[0].trim();
+            hold("at most sixty lines: " + first, body.group().split("\n").length <= 60);
+        }
+        hold("methods were found", methods >= METHODS.length);
+    }
+
     private static void words() throws IOException {
         String source = Files.readString(Path.of("src/main/java/Edits13.java"));
         String code = source.replaceAll("(?s)/\\*.*?\\*/", "").replaceAll("//[^\n]*", "");
@@ -72,6 +109,8 @@ public final class FaceTest {
 
     public static void main(String[] args) throws IOException {
         face();
+        shape();
+        lengths();
         words();
         System.out.println(wrong == 0 ? "the face is as due" : wrong + " rules do not hold");
         if (wrong != 0) System.exit(1);
