@@ -57,13 +57,13 @@ public final class Edits13 {
 
     public int face(int type, int face) {
         if (!now.types.isType(type) || !now.types.isFaceType(face)) return BAD;
-        if (now.types.faceCount[type] >= MOST_FACES || now.types.hasFace(type, face)) return BAD;
+        if (now.types.faceCountOf(type) >= MOST_FACES || now.types.hasFace(type, face)) return BAD;
         if (now.types.isBelow(face, type)) return RING;
         return take(FACE_COMES, type, face, 0, 0, 0, 0L);
     }
 
     public int unface(int type, int i) {
-        if (!now.types.isType(type) || i < 0 || i >= now.types.faceCount[type]) return BAD;
+        if (i < 0 || i >= now.types.faceCountOf(type)) return BAD;
         return take(FACE_GOES, type, i, 0, 0, 0, 0L);
     }
 
@@ -94,7 +94,7 @@ public final class Edits13 {
     public int mark(int member, int m) {
         if (!now.members.isMember(member)) return BAD;
         boolean good = now.members.isMethod(member)
-            ? isMethodMarks(m) : now.fieldMayBear(m, now.members.owner[member]);
+            ? isMethodMarks(m) : now.fieldMayBear(m, now.members.ownerOf(member));
         if (!good) return BAD;
         return take(MEMBER_MARKS, member, m, 0, 0, 0, 0L);
     }
@@ -113,7 +113,7 @@ public final class Edits13 {
         if (!now.members.isMember(member) || !now.types.isType(type)) return BAD;
         // Its own TYPE has one LIKE it, namely itself, and is refused by the same test.
         if (now.members.likeIn(type, member) != NONE) return BAD;
-        if (now.members.isField(member) && !now.fieldMayBear(now.members.marks[member], type)) return BAD;
+        if (now.members.isField(member) && !now.fieldMayBear(now.members.marksOf(member), type)) return BAD;
         return take(MEMBER_MOVES, member, type, 0, 0, 0, 0L);
     }
 
@@ -214,7 +214,7 @@ public final class Edits13 {
     public int selected(int type, int method) {
         Members all = now.members;
         if (!now.types.isClass(type) || !all.isMethod(method)) return BAD;
-        return now.select(type, all.name[method], all.first[method], all.second[method]);
+        return now.select(type, all.nameOf(method), all.firstOf(method), all.secondOf(method));
     }
 
     public int count(int what) {
@@ -369,11 +369,11 @@ public final class Edits13 {
     /** The TYPES and how they stand to each other. A set of TYPES is an int with a bit for each. */
     private static final class Types {
         int size = 0;
-        final boolean[] isFace = new boolean[MOST_TYPES];
-        final int[] parent = new int[MOST_TYPES];
-        final int[] marks = new int[MOST_TYPES];
-        final int[] faceCount = new int[MOST_TYPES];
-        final int[] faces = new int[MOST_TYPES * MOST_FACES];
+        private final boolean[] isFace = new boolean[MOST_TYPES];
+        private final int[] parent = new int[MOST_TYPES];
+        private final int[] marks = new int[MOST_TYPES];
+        private final int[] faceCount = new int[MOST_TYPES];
+        private final int[] faces = new int[MOST_TYPES * MOST_FACES];
         // For each TYPE the set of those that it is BELOW.
         private final int[] reach = new int[MOST_TYPES];
 
@@ -411,6 +411,10 @@ public final class Edits13 {
 
         private int reachOf(int t) {
             return isType(t) ? reach[t] : 0;
+        }
+
+        int faceCountOf(int t) {
+            return isType(t) ? faceCount[t] : 0;
         }
 
         int faceAt(int t, int i) {
@@ -564,14 +568,14 @@ public final class Edits13 {
     /** The MEMBERS by their numbers; a number is free while it has no owner. */
     private static final class Members {
         int size = 0;
-        final int[] owner = new int[MOST_MEMBERS];
-        final boolean[] methodAt = new boolean[MOST_MEMBERS];
-        final int[] name = new int[MOST_MEMBERS];
-        final int[] marks = new int[MOST_MEMBERS];
+        private final int[] owner = new int[MOST_MEMBERS];
+        private final boolean[] methodAt = new boolean[MOST_MEMBERS];
+        private final int[] name = new int[MOST_MEMBERS];
+        private final int[] marks = new int[MOST_MEMBERS];
         // The KIND of a FIELD or the first PARAMETER of a METHOD, as member() tells them.
-        final int[] first = new int[MOST_MEMBERS];
-        final int[] second = new int[MOST_MEMBERS];
-        final long[] value = new long[MOST_MEMBERS];
+        private final int[] first = new int[MOST_MEMBERS];
+        private final int[] second = new int[MOST_MEMBERS];
+        private final long[] value = new long[MOST_MEMBERS];
 
         Members() {
             clear();
@@ -584,6 +588,30 @@ public final class Edits13 {
 
         boolean isMember(int m) {
             return m >= 0 && m < MOST_MEMBERS && owner[m] != NONE;
+        }
+
+        int ownerOf(int m) {
+            return isMember(m) ? owner[m] : NONE;
+        }
+
+        int nameOf(int m) {
+            return isMember(m) ? name[m] : NONE;
+        }
+
+        int marksOf(int m) {
+            return isMember(m) ? marks[m] : 0;
+        }
+
+        int firstOf(int m) {
+            return isMember(m) ? first[m] : NONE;
+        }
+
+        int secondOf(int m) {
+            return isMember(m) ? second[m] : NONE;
+        }
+
+        long valueOf(int m) {
+            return isMember(m) ? value[m] : 0L;
         }
 
         boolean isField(int m) {
@@ -819,10 +847,10 @@ public final class Edits13 {
         private int bindField(Caller c) {
             int m = lookForField(c.type, c.name, HIDDEN);
             if (m == NONE) return NO_SUCH;
-            c.kind = members.first[m];
+            c.kind = members.firstOf(m);
             c.ofStatic = members.bears(m, STATIC);
             c.keeps = c.ofStatic && members.bears(m, FINAL);
-            c.kept = c.keeps ? members.value[m] : 0L;
+            c.kept = c.keeps ? members.valueOf(m) : 0L;
             return 0;
         }
 
@@ -836,20 +864,20 @@ public final class Edits13 {
             if (fits == 0) return NO_SUCH;
             int m = closestOf(fits);
             if (m == NONE) return MANY;
-            c.first = members.first[m];
-            c.second = members.second[m];
+            c.first = members.firstOf(m);
+            c.second = members.secondOf(m);
             c.ofStatic = members.bears(m, STATIC);
             c.ofFace = types.isFaceType(c.type);
             return 0;
         }
 
         private boolean isFit(int m, Caller c) {
-            if (!members.isMethod(m) || members.name[m] != c.name || members.bears(m, HIDDEN)) return false;
-            int a = members.first[m];
-            int b = members.second[m];
+            if (!members.isMethod(m) || members.nameOf(m) != c.name || members.bears(m, HIDDEN)) return false;
+            int a = members.firstOf(m);
+            int b = members.secondOf(m);
             if (!goesInto(c.firstArgument, a) || !goesInto(c.secondArgument, b)) return false;
             int holders = members.methodHolders(c.name, a, b, 0);
-            return types.firstHolder(c.type, holders, false) == members.owner[m];
+            return types.firstHolder(c.type, holders, false) == members.ownerOf(m);
         }
 
         private boolean goesInto(int argument, int parameter) {
@@ -859,17 +887,18 @@ public final class Edits13 {
 
         /** The one of those that fit whose PARAMETERS are BELOW those of each other one, or NONE. */
         private int closestOf(int fits) {
-            for (int i = 0; i < fits; i++) {
+            int last = Math.min(fits, MOST_MEMBERS);
+            for (int i = 0; i < last; i++) {
                 boolean closest = true;
-                for (int k = 0; k < fits && closest; k++) closest = isCloser(fitting[i], fitting[k]);
+                for (int k = 0; k < last && closest; k++) closest = isCloser(fitting[i], fitting[k]);
                 if (closest) return fitting[i];
             }
             return NONE;
         }
 
         private boolean isCloser(int m, int other) {
-            return goesInto(members.first[m], members.first[other])
-                && goesInto(members.second[m], members.second[other]);
+            return goesInto(members.firstOf(m), members.firstOf(other))
+                && goesInto(members.secondOf(m), members.secondOf(other));
         }
 
         /** What a CALLER MEETS on a CLASS r: a FAILURE, or 0 and what it is in met. */
@@ -887,7 +916,7 @@ public final class Edits13 {
             if (failure == 0 && !c.ofStatic) failure = failureOn(r, c.type);
             if (failure != 0) return failure;
             if (c.sort == GET) return meetsField(c, m);
-            return c.ofStatic ? meetsValue(members.value[m]) : meetsSelected(c, r);
+            return c.ofStatic ? meetsValue(members.valueOf(m)) : meetsSelected(c, r);
         }
 
         private int meetsValue(long v) {
@@ -896,15 +925,15 @@ public final class Edits13 {
         }
 
         private int meetsField(Caller c, int m) {
-            if (!widens(members.first[m], c.kind)) return CAST;
-            return meetsValue(asKind(c.kind, members.value[m]));
+            if (!widens(members.firstOf(m), c.kind)) return CAST;
+            return meetsValue(asKind(c.kind, members.valueOf(m)));
         }
 
         private int meetsSelected(Caller c, int r) {
             int m = select(r, c.name, c.first, c.second);
             if (m == NONE) return EMPTY;
             if (m == RING) return CHANGED;
-            return meetsValue(members.value[m]);
+            return meetsValue(members.valueOf(m));
         }
 
         private int failureOfFound(int m, Caller c) {
@@ -938,7 +967,7 @@ public final class Edits13 {
         /** Of those that a CLASS is BELOW, the other CLASSES are just the ones above it. */
         private boolean breaksFinal(int type) {
             for (int f = 0; f < MOST_MEMBERS; f++) {
-                int up = members.owner[f];
+                int up = members.ownerOf(f);
                 if (up == type || !types.isClass(up) || !types.isBelow(type, up)) continue;
                 if (members.isOpen(f) && members.bears(f, FINAL) && members.hasOpenLike(type, f)) return true;
             }
